@@ -533,6 +533,17 @@ public final class SetupJobShop {
         return sum;
     }
 
+    private static void copyRow(int[] from, int[] to) {
+        System.arraycopy(from, 0, to, 0, Math.min(from.length, to.length));
+    }
+
+    private static void copyRows(int[][] from, int[][] to) {
+        int rows = Math.min(from.length, to.length);
+        for (int row = 0; row < rows; row++) {
+            copyRow(from[row], to[row]);
+        }
+    }
+
     /** The orders of all machines, as rows of operation numbers. */
     private static final class Orders {
         final int[] sizes = new int[MACHINES];
@@ -582,17 +593,6 @@ public final class SetupJobShop {
                 place += step;
             }
             row[to] = operation;
-        }
-    }
-
-    private static void copyRow(int[] from, int[] to) {
-        System.arraycopy(from, 0, to, 0, Math.min(from.length, to.length));
-    }
-
-    private static void copyRows(int[][] from, int[][] to) {
-        int rows = Math.min(from.length, to.length);
-        for (int row = 0; row < rows; row++) {
-            copyRow(from[row], to[row]);
         }
     }
 
@@ -1002,8 +1002,13 @@ public final class SetupJobShop {
         final int[] leastRow = new int[JOBS];
         private final int[] formerRow = new int[JOBS];
 
-        /** Leaves the orders as they were; the row found stays here. */
+        /** Leaves the orders as they were; the row found stays here. The machine is closed in the timetable. */
         void explore(Shop shop, Timetable times, int machine) {
+            times.open[machine] = true;
+            times.compute(shop);
+            times.open[machine] = false;
+            // An order only delays operations, so nothing behind a row with this makespan can be better.
+            int floor = times.span;
             int[] row = shop.orders.rows[machine];
             int size = shop.orders.sizes[machine];
             copyRow(row, formerRow);
@@ -1015,7 +1020,8 @@ public final class SetupJobShop {
                     leastSpan = times.span;
                     copyRow(row, leastRow);
                 }
-                if (!advance(row, size)) {
+                boolean perfect = found && leastSpan <= floor;
+                if (perfect || !advance(row, size)) {
                     break;
                 }
             }
@@ -1082,7 +1088,6 @@ public final class SetupJobShop {
         private final int[] chosenRow = new int[JOBS];
 
         void build(Shop shop, RowSearch rowSearch) {
-            closed = 0;
             for (int machine = 0; machine < MACHINES; machine++) {
                 times.open[machine] = true;
             }
@@ -1101,7 +1106,6 @@ public final class SetupJobShop {
             int greatest = 0;
             for (int machine = 0; machine < MACHINES; machine++) {
                 if (times.open[machine]) {
-                    times.open[machine] = false;
                     rowSearch.explore(shop, times, machine);
                     times.open[machine] = true;
                     if (chosen == NONE || rowSearch.leastSpan > greatest) {

@@ -5,6 +5,7 @@ public final class ChangesTest {
     public static void main(String[] args) {
         promise22Swap();
         promise22SwapWithACycle();
+        promise22LowestUndefined();
         promise23Move();
         promise23MoveWithACycle();
         promise24Dispatch();
@@ -76,6 +77,16 @@ public final class ChangesTest {
         Check.due("no more causes", shop.failure(3), -1);
         Check.due("swap without cycle", shop.swap(1, 0), 10);
         Check.due("now without cycle", shop.swap(0, 0), 18);
+    }
+
+    /** Job 0 comes first on machine 3, so operation 0 is defined in spite of the cycle. */
+    private static void promise22LowestUndefined() {
+        SetupJobShop shop = new SetupJobShop();
+        Check.type(shop, "0,0,0:3.1.0;0,0,0:0.1.0/1.1.0;0,0,0:1.1.0/0.1.0");
+        shop.read();
+        Check.refused("swap", IllegalStateException.class, () -> shop.swap(0, 0));
+        Check.due("lowest undefined", shop.failure(1), 101);
+        Check.due("undefined operations", shop.failure(2), 4);
     }
 
     private static void promise23Move() {

@@ -26,7 +26,7 @@ public final class RandomRunsTest {
     }
 
     public static void main(String[] args) {
-        int runs = args.length > 0 ? Integer.parseInt(args[0]) : 150;
+        int runs = args.length > 0 ? Integer.parseInt(args[0]) : 400;
         int from = args.length > 1 ? Integer.parseInt(args[1]) : 1;
         for (int number = from; number < from + runs; number++) {
             new RandomRunsTest(number).run();
@@ -53,12 +53,13 @@ public final class RandomRunsTest {
 
     /** Makes a shop with many operations, since the searches are dull with few. */
     private void fill() {
-        int jobs = 2 + random.nextInt(4);
+        boolean full = random.nextInt(3) == 0;
+        int jobs = full ? 5 : 2 + random.nextInt(4);
         int longest = random.nextBoolean() ? 30 : 4;
         for (int job = 0; job < jobs; job++) {
             call("addJob", random.nextInt(random.nextBoolean() ? 100 : 10), random.nextInt(201), random.nextInt(10));
         }
-        for (int turn = 0; turn < 6 * jobs; turn++) {
+        for (int turn = 0; turn < 6 * jobs || full && shop.count(1) < 20; turn++) {
             call("addOperation", random.nextInt(jobs), random.nextInt(4), 1 + random.nextInt(longest),
                     random.nextInt(3));
         }

@@ -81,6 +81,7 @@ public final class ScheduleTest {
             Check.due("slack of " + operation, shop.slack(operation), want[operation]);
         }
         Check.due("makespan stays", shop.makespan(), 16);
+        Check.due("nothing is held back later", shop.best(1), 16);
         Check.refused("operation 4", IndexOutOfBoundsException.class, () -> shop.slack(4));
         Check.refused("operation -1", IndexOutOfBoundsException.class, () -> shop.slack(-1));
         SetupJobShop late = new SetupJobShop();
@@ -112,10 +113,13 @@ public final class ScheduleTest {
     private static void promise15Completion() {
         SetupJobShop shop = twoJobs();
         shop.addJob(77, 0, 0);
+        shop.addJob(70, 0, 0);
+        shop.addOperation(3, 3, 4, 0);
         Check.due("job 0", shop.completion(0), 9);
         Check.due("job 1", shop.completion(1), 16);
         Check.due("without operations", shop.completion(2), 77);
-        Check.refused("job 3", IndexOutOfBoundsException.class, () -> shop.completion(3));
+        Check.due("one operation", shop.completion(3), 74);
+        Check.refused("job 4", IndexOutOfBoundsException.class, () -> shop.completion(4));
         Check.refused("job -1", IndexOutOfBoundsException.class, () -> shop.completion(-1));
     }
 
@@ -132,6 +136,8 @@ public final class ScheduleTest {
         dueObjectives(shop, 28, 6 + 14, 2, 5, 3);
         shop.addJob(77, 70, 9);
         dueObjectives(shop, 28 + 77, 20 + 63, 3, 5, 3);
+        shop.setJob(2, 1, 76);
+        dueObjectives(shop, 28 + 77, 20 + 9, 3, 5, 3);
         shop.setJob(2, 1, 77);
         dueObjectives(shop, 28 + 77, 20, 2, 5, 3);
         Check.refused("what 5", IllegalArgumentException.class, () -> shop.objective(5));
@@ -150,6 +156,8 @@ public final class ScheduleTest {
         Check.due("makespan 0", empty.utilization(0), 0.0);
         empty.addOperation(0, 3, 1, 0);
         Check.due("a sixth", empty.utilization(3), 1.0 / 6.0);
+        empty.setJob(0, 0, 0);
+        Check.due("makespan 1", empty.utilization(3), 1.0);
     }
 
     private static void duePath(SetupJobShop shop, int... want) {
@@ -163,6 +171,7 @@ public final class ScheduleTest {
 
     private static void promise18And19Path() {
         duePath(new SetupJobShop());
+        Check.due("without another call before", twoJobs().path(2), 3);
         duePath(twoJobs(), 0, 2, 3);
         SetupJobShop shop = new SetupJobShop();
         for (int job = 0; job < 3; job++) {
@@ -218,6 +227,7 @@ public final class ScheduleTest {
 
     private static void promise20And21Blocks() {
         dueBlocks(new SetupJobShop());
+        Check.due("without another call before", twoJobs().blockLength(0), 2);
         SetupJobShop shop = twoJobs();
         dueBlocks(shop, 2, 1);
         shop.addJob(0, 0, 0);

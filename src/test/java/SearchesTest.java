@@ -9,6 +9,7 @@ public final class SearchesTest {
         promise27AvoidsCycles();
         promise28ShiftBottlenecks();
         promise28BeginsAnew();
+        promise28ReoptimizesWhatWasClosedBefore();
         promise29Bottleneck();
         promise30TabuOnOneMachine();
         promise30OnlyCriticalSwaps();
@@ -125,6 +126,25 @@ public final class SearchesTest {
         Check.due("with another machine", shop.shiftBottlenecks(), 10);
         ChangesTest.dueOrder(shop, 0, 0, 2, 1);
         Check.due("of equal ones the lowest", shop.bottleneck(0), 0);
+    }
+
+    /**
+     * Machine 3 is closed last, with the order 6, 0, 3 for 23. Then machine 2 changes to 5, 2 for 21. Machine 3 could
+     * now reach 19, but only the machines closed before it are reoptimized.
+     */
+    private static void promise28ReoptimizesWhatWasClosedBefore() {
+        SetupJobShop shop = new SetupJobShop();
+        Check.type(shop, "14,0,0:3.5.1;0,0,0:1.3.1/2.5.2/3.2.1;0,0,0:0.3.1;0,0,0:2.1.1/3.5.2");
+        shop.read();
+        shop.setSetup(1, 2, 4);
+        shop.setSetup(2, 1, 1);
+        Check.due("makespan", shop.shiftBottlenecks(), 21);
+        for (int index = 0; index < 4; index++) {
+            Check.due("bottleneck " + index, shop.bottleneck(index), index);
+        }
+        ChangesTest.dueOrder(shop, 2, 5, 2);
+        ChangesTest.dueOrder(shop, 3, 6, 0, 3);
+        Check.due("best of machine 3", shop.best(3), 19);
     }
 
     private static void promise29Bottleneck() {

@@ -293,6 +293,10 @@ public final class TextsTest {
         Check.due("breakdowns of machine 1", shop.clearBreakdowns(1), 1);
         Check.due("breakdowns of machine 3", shop.clearBreakdowns(3), 0);
         Check.due("the next operation", shop.addOperation(0, 3, 1, 0), 4);
+        shop.clearBreakdowns(1);
+        shop.addBreakdown(1, 20, 9);
+        shop.restore();
+        Check.due("an exchanged breakdown", Check.stateOf(shop), state);
         shop.shiftBottlenecks();
         int bottleneck = shop.bottleneck(3);
         shop.restore();
