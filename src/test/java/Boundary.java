@@ -119,7 +119,7 @@ final class Boundary {
         return shop;
     }
 
-    /** Two jobs that cross on the machines 0 and 1: a swap of either machine from the first orders is a cycle. */
+    /** Two jobs that cross: machine 0 has the order 0, 3 and must keep it as long as machine 1 has the order 1, 2. */
     static SetupJobShop crossing() {
         return shopOf("0,20,2:0.5.0/1.4.1;0,12,1:1.6.0/0.3.2");
     }
