@@ -215,27 +215,39 @@ final class Boundary {
         return words.replaceAll("\\s+", " ").trim();
     }
 
-    /** To be called at the end of a test for the promises from one number to another. */
+    /** To be called at the end of a test of the promises from one number to another, all of them. */
     static void end(int from, int to) throws IOException {
         String document = Files.readString(DOCUMENT);
         place = "the document, ";
-        String general = oneLine(document.substring(0, document.indexOf("## Promise 1:")));
         for (int promise = from; promise <= to; promise++) {
-            int begin = document.indexOf("## Promise " + promise + ":");
-            String section = document.substring(begin, document.indexOf("\n## ", begin));
-            Set<String> quoted = QUOTED.getOrDefault(promise, Set.of());
-            due("promise " + promise + " has a test", quoted.isEmpty(), false);
-            for (String words : quoted) {
-                due("words for promise " + promise + ": " + words,
-                        oneLine(section).contains(words) || general.contains(words), true);
-            }
-            for (String paragraph : section.split("\n\n")) {
+            for (String paragraph : sectionOf(document, promise).split("\n\n")) {
                 if (paragraph.startsWith("Throws")) {
+                    Set<String> quoted = QUOTED.getOrDefault(promise, Set.of());
                     due("a test for promise " + promise + ": " + paragraph, quoted.contains(oneLine(paragraph)), true);
                 }
             }
+            due("a test for promise " + promise, QUOTED.containsKey(promise), true);
         }
-        due("promises with tests", QUOTED.keySet().stream().allMatch(each -> each >= from && each <= to), true);
+        end();
+    }
+
+    /** To be called at the end of a test of some sentences. */
+    static void end() throws IOException {
+        String document = Files.readString(DOCUMENT);
+        place = "the document, ";
+        String general = oneLine(document.substring(0, document.indexOf("## Promise 1:")));
+        for (int promise : QUOTED.keySet()) {
+            String section = oneLine(sectionOf(document, promise));
+            for (String words : QUOTED.get(promise)) {
+                due("words for promise " + promise + ": " + words, section.contains(words) || general.contains(words),
+                        true);
+            }
+        }
         Check.end();
+    }
+
+    private static String sectionOf(String document, int promise) {
+        int begin = document.indexOf("## Promise " + promise + ":");
+        return document.substring(begin, document.indexOf("\n## ", begin));
     }
 }

@@ -117,6 +117,12 @@ public final class BoundaryChangesTest {
         Boundary.refused("but now for the other machine", Boundary.STATE, () -> shop.swap(1, 0));
         SetupJobShop parallel = Boundary.shopOf("0,0,0:0.1.0/1.1.0;0,0,0:0.1.0/1.1.0");
         Boundary.due("the same direction is no cycle", parallel.swap(0, 0), 4);
+        Boundary.sentence(22, "Calls that would lead to a cycle fail, so that the schedule always exists.");
+        SetupJobShop refused = Boundary.crossing();
+        for (int turn = 0; turn < 3; turn++) {
+            Boundary.refused("again and again", Boundary.STATE, () -> refused.swap(0, 0));
+            Boundary.due("the schedule is still there", refused.makespan(), 18);
+        }
         SetupJobShop open = ring();
         Boundary.due("a ring with a gap is no cycle", open.swap(2, 0) > 0 && open.swap(0, 0) > 0, true);
     }

@@ -13,6 +13,7 @@ public final class BoundaryJobsTest {
         promise2Ranges();
         promise2FullShop();
         promise3Numbers();
+        promise3Machines();
         promise3NoSuchJobOrMachine();
         promise3Ranges();
         promise3FullJob();
@@ -163,7 +164,7 @@ public final class BoundaryJobsTest {
     }
 
     private static void promise2Ranges() {
-        Boundary.sentence(2, "Throws `IllegalArgumentException` if an argument is out of range");
+        Boundary.sentence(2, "A job has a release from 0 to 99, a due time from 0 to 200, a weight from 0 to 9");
         int[] limits = {99, 200, 9};
         for (int what = 0; what < 3; what++) {
             int[] values = {0, 0, 0};
@@ -172,12 +173,15 @@ public final class BoundaryJobsTest {
             values[what] = limits[what];
             Boundary.due("greatest", shop.addJob(values[0], values[1], values[2]), 1);
             Boundary.due("is kept", shop.setJob(1, what, 0), limits[what]);
+        }
+        Boundary.due("all greatest", new SetupJobShop().addJob(99, 200, 9), 0);
+        Boundary.sentence(2, "Throws `IllegalArgumentException` if an argument is out of range");
+        for (int what = 0; what < 3; what++) {
             refuseJob(what, limits[what] + 1);
             for (int far : Boundary.FAR) {
                 refuseJob(what, far);
             }
         }
-        Boundary.due("all greatest", new SetupJobShop().addJob(99, 200, 9), 0);
     }
 
     private static void refuseJob(int what, int value) {
@@ -229,13 +233,23 @@ public final class BoundaryJobsTest {
         Boundary.due("operations", shop.count(1), 20);
     }
 
+    private static void promise3Machines() {
+        Boundary.sentence(3, "There are 4 machines, numbered from 0");
+        SetupJobShop shop = new SetupJobShop();
+        shop.addJob(0, 0, 0);
+        for (int machine = 0; machine < 4; machine++) {
+            Boundary.due("machine " + machine, shop.addOperation(0, machine, 1, 0), machine);
+            Boundary.due("is its machine", shop.property(machine, 1), machine);
+        }
+        Boundary.sentence(3, "a sequence of at most 4 operations");
+        Boundary.due("all of one job", shop.count(1), 4);
+        Boundary.due("one after the other", shop.makespan(), 4);
+    }
+
     private static void promise3NoSuchJobOrMachine() {
         Boundary.sentence(3, "Throws `IndexOutOfBoundsException` if there is no such job or machine");
         SetupJobShop empty = new SetupJobShop();
         Boundary.refused("job 0 of none", Boundary.INDEX, () -> empty.addOperation(0, 0, 1, 0));
-        empty.addJob(0, 0, 0);
-        Boundary.due("job 0, machine 0", empty.addOperation(0, 0, 1, 0), 0);
-        Boundary.due("machine 3", empty.addOperation(0, 3, 1, 0), 1);
         Boundary.refused("job 3 of three", Boundary.INDEX, Boundary::rich, shop -> shop.addOperation(3, 0, 1, 0));
         Boundary.refused("job 5", Boundary.INDEX, Boundary::full, shop -> shop.addOperation(5, 0, 1, 0));
         Boundary.refused("machine 4", Boundary.INDEX, Boundary::rich, shop -> shop.addOperation(0, 4, 1, 0));
@@ -247,7 +261,7 @@ public final class BoundaryJobsTest {
     }
 
     private static void promise3Ranges() {
-        Boundary.sentence(3, "Throws `IllegalArgumentException` if the duration or the family is out of range");
+        Boundary.sentence(3, "it has a duration from 1 to 30 and a family from 0 to 2");
         SetupJobShop shop = new SetupJobShop();
         shop.addJob(0, 0, 0);
         shop.addOperation(0, 0, 1, 0);
@@ -256,6 +270,7 @@ public final class BoundaryJobsTest {
         Boundary.due("family 0", shop.property(0, 3), 0);
         Boundary.due("duration 30", shop.property(1, 2), 30);
         Boundary.due("family 2", shop.property(1, 3), 2);
+        Boundary.sentence(3, "Throws `IllegalArgumentException` if the duration or the family is out of range");
         for (int bad : new int[] {0, 31}) {
             Boundary.refused("duration " + bad, Boundary.ARGUMENT, Boundary::rich,
                     each -> each.addOperation(0, 0, bad, 0));
@@ -357,15 +372,18 @@ public final class BoundaryJobsTest {
     }
 
     private static void promise4Ranges() {
-        Boundary.sentence(4, "Throws `IllegalArgumentException` if what or the value is out of range");
+        Boundary.sentence(4, "A job has a release from 0 to 99, a due time from 0 to 200, a weight from 0 to 9");
         int[] limits = {99, 200, 9};
         for (int what = 0; what < 3; what++) {
-            int which = what;
             SetupJobShop shop = new SetupJobShop();
             shop.addJob(5, 5, 5);
             Boundary.due("the least value", shop.setJob(0, what, 0), 5);
             Boundary.due("the greatest value", shop.setJob(0, what, limits[what]), 0);
             Boundary.due("is kept", shop.setJob(0, what, 1), limits[what]);
+        }
+        Boundary.sentence(4, "Throws `IllegalArgumentException` if what or the value is out of range");
+        for (int what = 0; what < 3; what++) {
+            int which = what;
             Boundary.refused("one more for " + what, Boundary.ARGUMENT, Boundary::rich,
                     rich -> rich.setJob(2, which, limits[which] + 1));
             for (int far : Boundary.FAR) {
@@ -432,6 +450,7 @@ public final class BoundaryJobsTest {
         for (int far : Boundary.FAR) {
             Boundary.refused("duration " + far, Boundary.ARGUMENT, Boundary::rich, s -> s.setDuration(6, far));
         }
+        Boundary.sentence(5, "it has a duration from 1 to 30");
         SetupJobShop shop = Boundary.row(0, 5);
         shop.setDuration(0, 1);
         Boundary.due("duration 1", shop.makespan(), 1);
@@ -476,11 +495,14 @@ public final class BoundaryJobsTest {
     }
 
     private static void promise6Range() {
-        Boundary.sentence(6, "Throws `IllegalArgumentException` if the setup time is out of range");
+        Boundary.sentence(6, "For each pair of families f and g there is a setup time from 0 to 9.");
         SetupJobShop shop = new SetupJobShop();
-        Boundary.due("0", shop.setSetup(2, 2, 0), 0);
-        Boundary.due("9", shop.setSetup(2, 2, 9), 0);
-        Boundary.due("is kept", shop.setSetup(2, 2, 0), 9);
+        for (int pair = 0; pair < 9; pair++) {
+            Boundary.due("0", shop.setSetup(pair / 3, pair % 3, 0), 0);
+            Boundary.due("9", shop.setSetup(pair / 3, pair % 3, 9), 0);
+            Boundary.due("is kept", shop.setSetup(pair / 3, pair % 3, 0), 9);
+        }
+        Boundary.sentence(6, "Throws `IllegalArgumentException` if the setup time is out of range");
         Boundary.refused("10", Boundary.ARGUMENT, Boundary::rich, rich -> rich.setSetup(2, 2, 10));
         for (int far : Boundary.FAR) {
             Boundary.refused("time " + far, Boundary.ARGUMENT, Boundary::rich, rich -> rich.setSetup(0, 1, far));
@@ -490,6 +512,13 @@ public final class BoundaryJobsTest {
     // Promise 7.
 
     private static void promise7Numbers() {
+        Boundary.sentence(7, "A machine has at most 3 breakdowns.");
+        SetupJobShop full = new SetupJobShop();
+        for (int number = 0; number < 4; number++) {
+            Boundary.due("breakdown " + number, Check.answerOf(() -> full.addBreakdown(1, 0, 1)),
+                    number < 3 ? (Object) (number + 1) : "throws IllegalStateException");
+        }
+        Boundary.due("three of them", full.clearBreakdowns(1), 3);
         Boundary.sentence(7, "Returns the number of breakdowns of the machine.");
         SetupJobShop shop = new SetupJobShop();
         for (int machine = 0; machine < 4; machine++) {

@@ -4,6 +4,7 @@ import java.io.IOException;
 public final class BoundaryScheduleTest {
     public static void main(String[] args) throws IOException {
         promise12ReadyTime();
+        promise12End();
         promise12NoPredecessors();
         promise12BreakdownsAroundAnOperation();
         promise12GapsBetweenBreakdowns();
@@ -80,6 +81,16 @@ public final class BoundaryScheduleTest {
         Boundary.due("the least setup", times(all, 2), "7 7 10");
         all.setDuration(0, 8);
         Boundary.due("the machine alone", times(all, 2), "8 8 11");
+    }
+
+    private static void promise12End() {
+        Boundary.sentence(12, "Its end is its start plus its duration.");
+        for (int duration : new int[] {1, 30}) {
+            SetupJobShop shop = Boundary.row(0, duration);
+            Boundary.due("from 0", shop.time(0, 2), duration);
+            shop.addBreakdown(0, 0, 60);
+            Boundary.due("from 60", shop.time(0, 2), 60 + duration);
+        }
     }
 
     private static void promise12NoPredecessors() {
@@ -245,6 +256,7 @@ public final class BoundaryScheduleTest {
         Boundary.due("10 is too much", broken.slack(0), 0);
         Boundary.due("nothing is moved", times(broken, 1), "2 2 5");
         Boundary.due("nor the makespan", broken.makespan(), 9);
+        Boundary.due("nor what could be reached", broken.best(0), 9);
     }
 
     /** Operation 0 is ready at 0, but starts at 4. */
@@ -358,6 +370,13 @@ public final class BoundaryScheduleTest {
         shop.addJob(99, 0, 0);
         shop.addOperation(1, 3, 1, 1);
         Boundary.due("one pair, though nobody waits for it", shop.objective(3), 9);
+        SetupJobShop three = Boundary.shopOf("0,0,0:0.1.0;0,0,0:0.1.1;0,0,0:0.1.2");
+        for (int pair = 0; pair < 9; pair++) {
+            three.setSetup(pair / 3, pair % 3, pair + 1);
+        }
+        Boundary.due("from 0 to 1 and from 1 to 2", three.objective(3), 2 + 6);
+        three.swap(0, 1);
+        Boundary.due("from 0 to 2 and from 2 to 1", three.objective(3), 3 + 8);
         SetupJobShop full = Boundary.full();
         for (int pair = 0; pair < 9; pair++) {
             full.setSetup(pair / 3, pair % 3, 9);

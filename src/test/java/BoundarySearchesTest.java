@@ -16,6 +16,7 @@ public final class BoundarySearchesTest {
         promise28GreatestValue();
         promise28LowestMachine();
         promise28LeastOrder();
+        promise28AllOfThemOnce();
         promise28ClosedBefore();
         promise28BuildsAnew();
         promise29Indices();
@@ -23,6 +24,7 @@ public final class BoundarySearchesTest {
         promise30NoSteps();
         promise30NoCandidate();
         promise30Tenure();
+        promise30PathOfThisStep();
         promise30UnlessLess();
         promise30LowestMachineAndPosition();
         promise30ReachedFirst();
@@ -233,6 +235,23 @@ public final class BoundarySearchesTest {
         Boundary.due("the last order", Boundary.order(five, 2), "4 3 2 1 0");
     }
 
+    private static void promise28AllOfThemOnce() {
+        Boundary.sentence(28, "then all machines that were closed before are reoptimized once");
+        SetupJobShop first = Boundary.shopOf("0,0,0:3.3.0/0.6.0;1,0,0:3.1.0/0.1.0");
+        Boundary.due("machine 0 goes from 3 1 for 11 to 1 3 for 10", first.shiftBottlenecks(), 10);
+        Boundary.due("closed", closed(first), "0 3 1 2");
+        Boundary.due("the first one closed is one of them", Boundary.order(first, 0), "1 3");
+        SetupJobShop all = Boundary.shopOf("0,0,0:3.4.0/2.6.0/0.7.0;1,0,0:3.3.0/2.1.0/0.1.0");
+        Boundary.due("not only the latest one closed before", all.shiftBottlenecks(), 18);
+        Boundary.due("closed", closed(all), "0 2 3 1");
+        SetupJobShop once = Boundary.shopOf("0,0,0:1.1.0/2.3.0/3.8.0/0.5.0;0,0,0:1.4.0/2.7.0/0.7.0/3.6.0");
+        Boundary.due("a second time would lead to 25", once.shiftBottlenecks(), 28);
+        Boundary.sentence(28, "in the order in which they were closed");
+        SetupJobShop order = Boundary.shopOf("0,0,0:1.3.0/0.7.0;0,0,0:1.2.0/2.3.0;0,0,0:0.6.0;6,0,0:2.8.0");
+        Boundary.due("the other way round would lead to 14", order.shiftBottlenecks(), 16);
+        Boundary.due("closed", closed(order), "0 1 2 3");
+    }
+
     /** Machine 3, closed last for 23, could go on to 19 after machine 2 has changed, but it was not closed before. */
     private static void promise28ClosedBefore() {
         Boundary.sentence(28, "then all machines that were closed before are reoptimized once, in the order in which "
@@ -364,9 +383,27 @@ public final class BoundarySearchesTest {
         SetupJobShop two = Boundary.row(1, 1, 1);
         two.tabu(20, 0);
         Boundary.due("nothing is forbidden", two.tabuSteps(), 20);
-        two.tabu(20, 9);
-        two.tabu(20, 9);
-        Boundary.due("steps of an earlier search are none of this one", two.tabuSteps(), 1);
+        SetupJobShop again = Boundary.shopOf("0,0,0:0.2.0;0,0,0:0.3.1");
+        again.setSetup(0, 1, 5);
+        Boundary.due("the first search stays at 1 0", again.tabu(1, 9), 5);
+        again.tabu(20, 9);
+        Boundary.due("its step is none of the second search, which may undo it", again.tabuSteps(), 1);
+    }
+
+    private static void promise30PathOfThisStep() {
+        Boundary.sentence(30, "operations that stand next to each other in a block of the critical path");
+        SetupJobShop shop = Boundary.row(0, 2, 3, 4);
+        shop.tabu(1, 0);
+        shop.setJob(2, 0, 99);
+        shop.tabu(20, 0);
+        Boundary.due("0 and 1 were on the path of an earlier search", shop.tabuSteps(), 0);
+        SetupJobShop job = Boundary.shopOf("0,0,0:0.5.0;0,0,0:1.4.0/0.3.0");
+        Boundary.due("0 and 2 are on the path", Boundary.path(job), "0 2");
+        job.tabu(1, 0);
+        job.setDuration(1, 9);
+        Boundary.due("now 1 and 2 are", Boundary.path(job), "1 2");
+        job.tabu(20, 0);
+        Boundary.due("they are on two machines", job.tabuSteps(), 0);
     }
 
     private static void promise30UnlessLess() {

@@ -36,6 +36,7 @@ public final class BoundaryTextsTest {
         promise36NegativeDepth();
         promise36LatestFailure();
         promise37EveryPart();
+        promise37Breakdowns();
         promise37InPlaceOfAnEarlierOne();
         promise37NotSaved();
         promise38NoSnapshot();
@@ -74,6 +75,10 @@ public final class BoundaryTextsTest {
         }
         SetupJobShop tails = Boundary.shopOf("0,0,0:0.6.0/1.9.0;2,0,0:0.3.0/2.8.0");
         Boundary.due("a tail one less does not interrupt", tails.bound(0), 17);
+        Boundary.sentence(32, "let the head be the release of its job plus the durations of the earlier operations of the "
+                + "job, and the tail the sum of the durations of the later ones");
+        SetupJobShop alone = Boundary.shopOf("7,0,0:0.3.0");
+        Boundary.due("no earlier and no later one", alone.bound(0), 10);
         SetupJobShop earlier = Boundary.shopOf("2,0,0:1.4.0/2.5.0/0.3.0");
         Boundary.due("earlier operations count for the head", earlier.bound(0), 14);
         Boundary.due("and later ones for the tail", earlier.bound(1), 14);
@@ -428,6 +433,9 @@ public final class BoundaryTextsTest {
     private static void promise35FaultBeforeExecution() {
         Boundary.sentence(35, "Throws `IllegalArgumentException` if the text has a fault");
         dueFault("x", 0);
+        Boundary.sentence(35, "Code 2: the text has a fault; its cause has the code 100 plus the fault position.");
+        dueFault("1x", 1);
+        dueFault(FULL_TEXT.substring(0, 79) + "x", 79);
         Boundary.sentence(35, "the one that is listed first determines the exception.");
         dueFault("100,0,0:0.1.0;", 14);
         dueFault("0,0,0:9.0.9/", 12);
@@ -553,6 +561,23 @@ public final class BoundaryTextsTest {
             change(shop, change);
             shop.restore();
             Boundary.due("change " + change + " is taken back", Boundary.allAnswers(shop, true), before);
+        }
+    }
+
+    private static void promise37Breakdowns() {
+        Boundary.sentence(37, "the breakdowns");
+        int[][] others = {{0, 1}, {0, 60}, {400, 60}, {8, 1}};
+        for (int[] other : others) {
+            SetupJobShop shop = Boundary.row(0, 3, 4);
+            shop.addBreakdown(0, 6, 2);
+            shop.save();
+            shop.clearBreakdowns(0);
+            shop.addBreakdown(0, other[0], other[1]);
+            shop.addBreakdown(0, 0, 5);
+            shop.restore();
+            Boundary.due("before it", shop.time(0, 1), 0);
+            Boundary.due("behind it", shop.time(1, 1), 8);
+            Boundary.due("how many", shop.clearBreakdowns(0), 1);
         }
     }
 
