@@ -1,6 +1,4 @@
 import java.io.IOException;
-import java.nio.file.Files;
-import java.nio.file.Path;
 import java.util.Map;
 import java.util.NoSuchElementException;
 import java.util.Set;
@@ -23,8 +21,6 @@ final class Boundary {
     static final Class<?> STATE = IllegalStateException.class;
     static final Class<?> ELEMENT = NoSuchElementException.class;
 
-    private static final Path DOCUMENT = Path.of("../shared/DOC.md");
-
     private static final Map<Integer, Set<String>> QUOTED = new TreeMap<>();
     private static String place = "";
 
@@ -33,7 +29,7 @@ final class Boundary {
 
     /** What follows, up to the next sentence, is a test of this sentence for this promise. */
     static void sentence(int promise, String words) {
-        QUOTED.computeIfAbsent(promise, key -> new TreeSet<>()).add(oneLine(words));
+        QUOTED.computeIfAbsent(promise, key -> new TreeSet<>()).add(Document.oneLine(words));
         place = "promise " + promise + ", \"" + words + "\": ";
     }
 
@@ -211,19 +207,15 @@ final class Boundary {
         return restored + allAnswers(shop, false);
     }
 
-    private static String oneLine(String words) {
-        return words.replaceAll("\\s+", " ").trim();
-    }
-
     /** To be called at the end of a test of the promises from one number to another, all of them. */
     static void end(int from, int to) throws IOException {
-        String document = Files.readString(DOCUMENT);
         place = "the document, ";
         for (int promise = from; promise <= to; promise++) {
-            for (String paragraph : sectionOf(document, promise).split("\n\n")) {
+            for (String paragraph : Document.promise(promise).split("\n\n")) {
                 if (paragraph.startsWith("Throws")) {
                     Set<String> quoted = QUOTED.getOrDefault(promise, Set.of());
-                    due("a test for promise " + promise + ": " + paragraph, quoted.contains(oneLine(paragraph)), true);
+                    due("a test for promise " + promise + ": " + paragraph,
+                            quoted.contains(Document.oneLine(paragraph)), true);
                 }
             }
             due("a test for promise " + promise, QUOTED.containsKey(promise), true);
@@ -233,21 +225,15 @@ final class Boundary {
 
     /** To be called at the end of a test of some sentences. */
     static void end() throws IOException {
-        String document = Files.readString(DOCUMENT);
         place = "the document, ";
-        String general = oneLine(document.substring(0, document.indexOf("## Promise 1:")));
+        String general = Document.oneLine(Document.between(Document.text(), "## What it is", "## Promise 1:"));
         for (int promise : QUOTED.keySet()) {
-            String section = oneLine(sectionOf(document, promise));
+            String section = Document.oneLine(Document.promise(promise));
             for (String words : QUOTED.get(promise)) {
                 due("words for promise " + promise + ": " + words, section.contains(words) || general.contains(words),
                         true);
             }
         }
         Check.end();
-    }
-
-    private static String sectionOf(String document, int promise) {
-        int begin = document.indexOf("## Promise " + promise + ":");
-        return document.substring(begin, document.indexOf("\n## ", begin));
     }
 }

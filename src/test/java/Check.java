@@ -1,3 +1,4 @@
+import java.lang.reflect.InvocationTargetException;
 import java.util.Objects;
 
 /** What the tests share: it counts the answers that are not as due, and tells each of them. */
@@ -43,6 +44,21 @@ final class Check {
             return call.answer();
         } catch (RuntimeException e) {
             return "throws " + e.getClass().getSimpleName();
+        }
+    }
+
+    /** The answer of a public method that is called by its name, null if it answers nothing. */
+    static Object answerByName(Object target, String name, Object... values) {
+        Class<?>[] types = new Class<?>[values.length];
+        for (int i = 0; i < values.length; i++) {
+            types[i] = values[i] instanceof Character ? char.class : int.class;
+        }
+        try {
+            return target.getClass().getMethod(name, types).invoke(target, values);
+        } catch (InvocationTargetException e) {
+            return "throws " + e.getCause().getClass().getSimpleName();
+        } catch (ReflectiveOperationException e) {
+            return "cannot be called: " + e;
         }
     }
 

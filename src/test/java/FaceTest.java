@@ -17,47 +17,9 @@ import java.util.stream.Collectors;
 public final class FaceTest {
     private static final Path SOURCE = Path.of("src/main/java/SetupJobShop.java");
 
-    private static final String[] METHODS = {
-        "int addJob(int,int,int) IllegalArgumentException,IllegalStateException",
-        "int addOperation(int,int,int,int) IndexOutOfBoundsException,IllegalArgumentException,IllegalStateException",
-        "int setJob(int,int,int) IndexOutOfBoundsException,IllegalArgumentException",
-        "int setDuration(int,int) IndexOutOfBoundsException,IllegalArgumentException",
-        "int setSetup(int,int,int) IndexOutOfBoundsException,IllegalArgumentException",
-        "int addBreakdown(int,int,int) IndexOutOfBoundsException,IllegalArgumentException,IllegalStateException",
-        "int clearBreakdowns(int) IndexOutOfBoundsException",
-        "int count(int) IllegalArgumentException",
-        "int property(int,int) IndexOutOfBoundsException,IllegalArgumentException",
-        "int order(int,int) IndexOutOfBoundsException,NoSuchElementException",
-        "int time(int,int) IndexOutOfBoundsException,IllegalArgumentException",
-        "int makespan() ",
-        "int slack(int) IndexOutOfBoundsException",
-        "int completion(int) IndexOutOfBoundsException",
-        "int objective(int) IllegalArgumentException",
-        "double utilization(int) IndexOutOfBoundsException",
-        "int pathLength() ",
-        "int path(int) NoSuchElementException",
-        "int blocks() ",
-        "int blockLength(int) NoSuchElementException",
-        "int swap(int,int) IndexOutOfBoundsException,NoSuchElementException,IllegalStateException",
-        "int move(int,int) IndexOutOfBoundsException,IllegalArgumentException,IllegalStateException",
-        "int dispatch(int) IllegalArgumentException",
-        "int repair(int,int) IllegalArgumentException",
-        "int best(int) IndexOutOfBoundsException",
-        "int reoptimize(int) IndexOutOfBoundsException",
-        "int shiftBottlenecks() ",
-        "int bottleneck(int) NoSuchElementException",
-        "int tabu(int,int) IllegalArgumentException",
-        "int tabuSteps() ",
-        "int bound(int) IndexOutOfBoundsException",
-        "int lowerBound() ",
-        "void append(char) IllegalStateException",
-        "int read() IllegalArgumentException,IllegalStateException",
-        "int failure(int) IllegalArgumentException",
-        "void save() ",
-        "void restore() IllegalStateException"};
-
     public static void main(String[] args) throws IOException {
         publicMembers();
+        signaturesOfThePromises();
         noOtherVisibleMembers();
         noPrivateMethodWithAPublicName();
         sizesOfClasses();
@@ -66,19 +28,29 @@ public final class FaceTest {
     }
 
     private static String names(Class<?>[] types) {
-        return Arrays.stream(types).map(Class::getSimpleName).collect(Collectors.joining(","));
+        return Arrays.stream(types).map(Class::getSimpleName).collect(Collectors.joining(", "));
     }
 
-    private static void publicMembers() {
+    /** A declaration without the names of its parameters. */
+    private static String withoutNames(String declaration) {
+        return declaration.replaceAll("(int|char) \\w+(?=[,)])", "$1");
+    }
+
+    private static void publicMembers() throws IOException {
         Set<String> found = new TreeSet<>();
         for (Method method : SetupJobShop.class.getDeclaredMethods()) {
             if (Modifier.isPublic(method.getModifiers())) {
+                Class<?>[] exceptions = method.getExceptionTypes();
                 found.add(method.getReturnType().getSimpleName() + " " + method.getName() + "("
-                        + names(method.getParameterTypes()) + ") " + names(method.getExceptionTypes()));
+                        + names(method.getParameterTypes()) + ")"
+                        + (exceptions.length > 0 ? " throws " + names(exceptions) : ""));
                 Check.due(method + " is static", Modifier.isStatic(method.getModifiers()), false);
             }
         }
-        Check.due("public methods", found, new TreeSet<>(List.of(METHODS)));
+        List<String> due = Document.methods();
+        Check.due("methods of the document", due.size(), 37);
+        Check.due("public methods", found, due.stream().map(FaceTest::withoutNames)
+                .collect(Collectors.toCollection(TreeSet::new)));
         int modifiers = SetupJobShop.class.getModifiers();
         Check.due("public and final", Modifier.isPublic(modifiers) && Modifier.isFinal(modifiers), true);
         Check.due("no package", SetupJobShop.class.getPackageName(), "");
@@ -86,6 +58,16 @@ public final class FaceTest {
         Check.due("constructors", constructors.length, 1);
         Check.due("parameters", constructors[0].getParameterCount(), 0);
         Check.due("public constructor", Modifier.isPublic(constructors[0].getModifiers()), true);
+    }
+
+    /** Promise 1 is the constructor; the methods follow in the order of the face, so that tests can go by numbers. */
+    private static void signaturesOfThePromises() throws IOException {
+        List<String> methods = Document.methods();
+        Check.due("promises", methods.size() + 1, Document.PROMISES);
+        for (int promise = 2; promise <= Document.PROMISES; promise++) {
+            Check.due("signature of promise " + promise, Document.between(Document.promise(promise), "`", "`"),
+                    methods.get(promise - 2));
+        }
     }
 
     private static void noOtherVisibleMembers() {

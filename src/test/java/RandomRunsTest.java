@@ -1,5 +1,3 @@
-import java.lang.reflect.InvocationTargetException;
-import java.lang.reflect.Method;
 import java.util.ArrayList;
 import java.util.Arrays;
 import java.util.List;
@@ -158,33 +156,18 @@ public final class RandomRunsTest {
     }
 
     private void append(char c) {
-        Class<?>[] types = {char.class};
-        compare("append(" + c + ")", "append", types, c);
+        compare("append(" + c + ")", "append", c);
     }
 
     private void call(String name, int... numbers) {
-        Class<?>[] types = new Class<?>[numbers.length];
-        Arrays.fill(types, int.class);
-        Object[] values = Arrays.stream(numbers).boxed().toArray();
-        compare(name + Arrays.toString(numbers), name, types, values);
+        compare(name + Arrays.toString(numbers), name, Arrays.stream(numbers).boxed().toArray());
     }
 
-    private void compare(String what, String name, Class<?>[] types, Object... values) {
-        Object want = answer(plain, name, types, values);
-        Object got = answer(shop, name, types, values);
+    private void compare(String what, String name, Object... values) {
+        Object want = Check.answerByName(plain, name, values);
+        Object got = Check.answerByName(shop, name, values);
         log.add(what + " -> " + got);
         Check.due("run " + number + ", call " + log.size() + ", " + what, got, want);
-    }
-
-    private static Object answer(Object target, String name, Class<?>[] types, Object... values) {
-        try {
-            Method method = target.getClass().getMethod(name, types);
-            return method.invoke(target, values);
-        } catch (InvocationTargetException e) {
-            return "throws " + e.getCause().getClass().getSimpleName();
-        } catch (ReflectiveOperationException e) {
-            return "cannot be called: " + e;
-        }
     }
 
     private void askAll() {
