@@ -646,7 +646,7 @@ public final class SetupJobShop {
         }
 
         boolean accepts(int job, int machine) {
-            if (stepCounts[job] >= STEPS) {
+            if (stepCounts[job] >= STEPS || operations >= OPERATIONS) {
                 return false;
             }
             for (int step = 0; step < stepCounts[job]; step++) {
@@ -1351,9 +1351,11 @@ public final class SetupJobShop {
         }
 
         private void endNumber() {
-            kinds[numbers] = kind;
-            values[numbers] = value;
-            numbers++;
+            if (numbers < TEXT_LIMIT) {
+                kinds[numbers] = kind;
+                values[numbers] = value;
+                numbers++;
+            }
         }
 
         private boolean takesDigit() {
